@@ -332,7 +332,7 @@ public final class ThirdDay {
                 guilty += one.guilt;
             }
         }
-        tellFraction(guilty, Math.max(1, clean));
+        tellFraction(guilty, clean);
         return 1;
     }
 
@@ -720,6 +720,7 @@ public final class ThirdDay {
         return WELL;
     }
 
+    /** In lowest terms; 0 by 1, if the lower number is 0, as nobody is counted then. */
     private void tellFraction(long upper, long lower) {
         long common = commonDivisor(lower, upper);
         upperTold = common == 0 ? 0 : upper / common;

@@ -109,6 +109,7 @@ final class PromisesTest {
         promise(2);
         due("row(0, 3)", x.row(0, 3), 3);
         holds(0, 0, 0, 0);
+        x.lay(0, 0, 6);
         x.lay(0, 1, 7);
         due("row(0, 2) anew", x.row(0, 2), 2);
         holds(0, 0, 0);
@@ -239,6 +240,7 @@ final class PromisesTest {
         fault("i0001m000", 1);
         fault("i4001m000", 1);
         fault("i1/01m000", 2);
+        fault("i1:01m000", 2);
         fault("i10:1m000", 3);
         fault("i1000m000", 4);
         fault("i1007m000", 4);
@@ -254,6 +256,9 @@ final class PromisesTest {
         fault("i1001m09", 8);
         fault("i1001m0a0", 7);
         fault("i1001m00a", 8);
+        fault("i1001m0:0", 7);
+        fault("i1001m00:", 8);
+        fault("i1001m/00", 6);
         fault("i1001m000,", 9);
         fault("i1001m000 p", 11);
         fault("i3996m199p000c000w000x000n000", NONE);
@@ -266,6 +271,9 @@ final class PromisesTest {
         due("a byte below 0 that is cut to m", x.fault(0), NONE);
         x.put(0, 5, -109);
         due("a byte below 0", x.fault(0), 5);
+        text(0, "  i1001m000");
+        x.text(0, 2);
+        due("a text shorter than the one before", x.fault(0), 2);
 
         promise(11);
         finds("court(1) without a text", () -> x.court(1), NOTHING);
@@ -278,7 +286,9 @@ final class PromisesTest {
         x.heat(2);
         x.salve(1);
         x.trial(0);
+        x.keep(0);
         x.keep(1);
+        x.keep(2);
         text(1, "i1001 m000 w111");
         due("court(1)", x.court(1), 2);
         due("HEAT anew", x.count(1), 8);
@@ -286,7 +296,8 @@ final class PromisesTest {
         due("nobody TRIED", x.count(3), 0);
         due("no SALVE", x.count(6), 0);
         due("no kept COURTS", x.count(10), 0);
-        finds("on(1)", () -> x.on(1), NOTHING);
+        finds("on(0)", () -> x.on(0), NOTHING);
+        finds("on(2)", () -> x.on(2), NOTHING);
         due("court(0) again", x.court(0), 6);
         asks("man(1, 7)", x.man(1, 7), 1, 0);
         x.put(0, 6, 'w');
@@ -389,12 +400,16 @@ final class PromisesTest {
         x.heat(1);
         due("a PLOUGHMAN's who is not CLEAN", x.mark(1, 1), 0);
         court("i1991 p059 p000 n058 c001");
+        due("a PLOUGHMAN's to 30", x.mark(0, 1), 22);
+        x.salve(0);
         due("30 at most", x.mark(0, 1), 22);
         due("a PLOUGHMAN's to 12", x.mark(1, 1), 4);
         due("a NEPHEW's of MERCY more than HEAT", x.mark(2, 5), 0);
         due("a CLERK's of HAND 1", x.mark(3, 2), 1);
         x.heat(4);
         due("a NEPHEW's of 3", x.mark(2, 5), 2);
+        court("i1001 m199 x000 m199");
+        due("a PROXY's of two", x.mark(1, 4), 2);
     }
 
     private void fill(int n) {
@@ -438,7 +453,8 @@ final class PromisesTest {
         refuses("salve(1) of one TRIED", () -> x.salve(1), STATE);
         refuses("salve(6)", () -> x.salve(6), BAD);
         refuses("salve(-1)", () -> x.salve(-1), BAD);
-        fill(35);
+        fill(34);
+        due("salve(3), the last DEED", x.salve(3), 1);
         refuses("salve(2) of 40", () -> x.salve(2), FULL);
         refuses("salve(0) of 40", () -> x.salve(0), STATE);
 
@@ -462,7 +478,11 @@ final class PromisesTest {
         refuses("trial(4) again", () -> x.trial(4), STATE);
         refuses("trial(6)", () -> x.trial(6), BAD);
         refuses("trial(-1)", () -> x.trial(-1), BAD);
-        fill(35);
+        fill(34);
+        due("DEEDS", x.count(2), 39);
+        asks("trial(5), the last DEED", x.trial(5), 2, 0);
+        x.undo(39);
+        x.heat(1);
         refuses("trial(5) of 40", () -> x.trial(5), FULL);
         refuses("trial(0) of 40", () -> x.trial(0), STATE);
         court("i1091 w009 m120 w009 m009 x009 p009");
@@ -549,6 +569,11 @@ final class PromisesTest {
         due("nobody TRIED", x.count(3), 0);
         due("on(1) again", x.on(1), 3);
         due("digest() again", x.digest(), digest);
+        fill(37);
+        due("keep(0) of 40", x.keep(0), 40);
+        x.undo(0);
+        due("on(0) of 40", x.on(0), 40);
+        due("on(1) at last", x.on(1), 3);
     }
 
     private void heats() {
@@ -561,6 +586,8 @@ final class PromisesTest {
         x.heat(-3);
         x.trial(1);
         asks("comes() of those not TRIED", x.comes(), 1 + 8 + 16 + 32, 16 + 32);
+        court("i1001 m199 m009");
+        asks("comes() without the first", x.comes(), 2, 2);
 
         promise(21);
         refuses("wrong(8) without men", () -> x.wrong(8), STATE);
@@ -590,6 +617,10 @@ final class PromisesTest {
         asks("best() of none", x.best(), 0, 0);
         court("i1001 m100 m131");
         asks("the first of the best", x.best(), 1, 0);
+        court("i1991 x197");
+        asks("best() of one CLEAN up to 30", x.best(), 0, 1);
+        court("i1991 x196");
+        asks("best() of one CLEAN up to 29", x.best(), 30, 0);
 
         heatSets();
     }
@@ -657,6 +688,12 @@ final class PromisesTest {
         court("i1006 m009 m009 m009");
         due("the first by numbers", x.order(5), 0);
         holds(5, 0, 1, 2);
+        court("i1001 m000 m000 m000 m000 m000 m000");
+        due("all told WRONGLY", x.order(1), 6);
+        holds(1, 0, 1, 2, 3, 4, 5);
+        court("i1003 m009 m009 m109");
+        due("the KING not yet angry", x.order(1), 1);
+        holds(1, 0, 1, 2);
         refuses("order(6)", () -> x.order(6), BAD);
         refuses("order(-1)", () -> x.order(-1), BAD);
         court("i1002 m109 m008 m129 m009");
@@ -675,6 +712,10 @@ final class PromisesTest {
         asks("tried(0) in another order", x.tried(0), 2, 13);
         row(0, 2);
         asks("tried(0) of some", x.tried(0), 1, 8);
+        row(0, 2, 1);
+        asks("tried(0) of two CLEAN", x.tried(0), 1, 13);
+        row(0, 3, 1);
+        asks("tried(0) of one FOUL, one CLEAN", x.tried(0), 1, 8);
         row(0);
         asks("tried(0) of none", x.tried(0), 0, 8);
         due("HEAT stays", x.count(1), 8);
@@ -750,6 +791,8 @@ final class PromisesTest {
         finds("fits(0) of no pair", () -> x.fits(0), SIZE);
         row(0, 9, 9, 9);
         finds("fits(0) of no pairs, no MEN", () -> x.fits(0), SIZE);
+        row(0, 1, 0);
+        asks("fits(0) of a row that was longer", x.fits(0), 2047 - 63, 5);
         row(0, 4, 0);
         finds("fits(0) of no MAN", () -> x.fits(0), UNLIKE);
         row(0, -1, 0);
@@ -793,6 +836,15 @@ final class PromisesTest {
         row(0, 0, 3);
         finds("ask(0) of 3", () -> x.ask(0), UNLIKE);
         refuses("ask(-1)", () -> x.ask(-1), BAD);
+        row(0);
+        court("i1003 m134 m005 m134");
+        asks("ask(0): the second", x.ask(0), 1, 25);
+        court("i1003 m005 m134");
+        asks("ask(0): the first of fewer MEN than before", x.ask(0), 0, 25);
+        court("i1003 c009 m134 m134");
+        asks("ask(0): the first of all", x.ask(0), 0, 16);
+        court("i1003 m134");
+        asks("ask(0) of one who tells nothing", x.ask(0), 0, 31);
     }
 
     private void handsAndKinds() {
@@ -871,6 +923,7 @@ final class PromisesTest {
         court("i1006 m001 m000");
         x.heat(-5);
         x.heat(-3);
+        due("no turn", x.duel(0), 0);
         due("kept to 0", x.duel(1), 0);
         due("the king from 0", x.duel(2), 2);
         x.heat(5);
@@ -952,6 +1005,7 @@ final class PromisesTest {
         due("DEEDS", x.count(2), 7);
         due("told WRONGLY", x.count(5), 1);
         x.undo(0);
+        lotsByHand();
         due("lots(20, 7)", x.lots(20, 7) >= 0 ? 1 : 0, 1);
         refuses("lots(0, 1)", () -> x.lots(0, 1), BAD);
         refuses("lots(21, 1)", () -> x.lots(21, 1), BAD);
@@ -964,6 +1018,31 @@ final class PromisesTest {
         refuses("lots(1, 1) of 40", () -> x.lots(1, 1), FULL);
         refuses("lots(21, 1) of 40", () -> x.lots(21, 1), BAD);
         due("DEEDS", x.count(2), 40);
+    }
+
+    /** Who is tried and has salve by the numbers themselves. */
+    private void lotsByHand() {
+        for (int seed = 1; seed <= 40; seed++) {
+            court(SIX);
+            long it = seed;
+            int tried = 0;
+            int[] salve = new int[6];
+            for (int k = 0; k < 20; k++) {
+                it = it * 48271L % 2147483647L;
+                int i = (int) (it / 8 % 6);
+                if (it % 3 != 0 && (tried >> i) % 2 == 0) {
+                    tried += 1 << i;
+                } else if (it % 3 != 0) {
+                    salve[i] = Math.min(3, salve[i] + 1);
+                }
+            }
+            x.lots(20, seed);
+            due("who is TRIED by seed " + seed, x.count(3), tried);
+            for (int i = 0; i < 6; i++) {
+                asks("SALVE by seed " + seed, x.man(i, 7), 1, salve[i]);
+            }
+        }
+        x.undo(0);
     }
 
     private void told() {
@@ -1034,7 +1113,7 @@ final class PromisesTest {
 
     private void counts() {
         promise(39);
-        court("i1001 m109 p009 x159 w000");
+        court("i1001 p106 m009 x159 w000");
         x.row(0, 0);
         x.row(3, 1);
         x.row(3, 2);
