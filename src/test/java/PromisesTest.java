@@ -1,13 +1,8 @@
 /** Each promise of the document by hand: ordinary inputs, the edges that it names, wrong inputs. */
-final class PromisesTest {
-    private static final int BAD = -1, FULL = -2, FINDING = -3, STATE = -4, NONE = -9;
-    private static final int NOTHING = 1, BEYOND = 2, UNLIKE = 3, NOUGHT = 4, SIZE = 5;
-    private static final int ALL_HEATS = 2147483647;
-    private static final String SIX = "i1342 m024 p163 c056 w125 x194 n037";
-
-    private final Check check = new Check("PromisesTest");
-    private ThirdDay x = new ThirdDay();
-    private int promise;
+final class PromisesTest extends Calls {
+    private PromisesTest() {
+        super("PromisesTest");
+    }
 
     public static void main(String[] args) {
         PromisesTest test = new PromisesTest();
@@ -22,78 +17,8 @@ final class PromisesTest {
         test.check.end();
     }
 
-    // ---- helpers
-
     private void promise(int number) {
-        promise = number;
-        x = new ThirdDay();
-    }
-
-    private void due(String what, long got, long want) {
-        check.due("promise " + promise + ": " + what, got, want);
-    }
-
-    /** A call that tells by asked(). */
-    private void asks(String what, long got, long want, int told) {
-        due(what, got, want);
-        due("asked() behind " + what, x.asked(), told);
-    }
-
-    private void fraction(String what, long got, long upper, long lower) {
-        due(what, got, 1);
-        due("upper() behind " + what, x.upper(), upper);
-        due("lower() behind " + what, x.lower(), lower);
-    }
-
-    /** A refusal by a finding: it changes nothing but finding() and findings(). */
-    private void finds(String what, java.util.function.IntSupplier call, int finding) {
-        long digest = x.digest();
-        int asked = x.asked();
-        int before = x.findings(finding);
-        due(what, call.getAsInt(), FINDING);
-        due("finding() behind " + what, x.finding(), finding);
-        due("findings() behind " + what, x.findings(finding), before + 1);
-        due("digest() behind " + what, x.digest(), digest);
-        due("asked() behind " + what, x.asked(), asked);
-    }
-
-    /** Any other refusal: it changes nothing. */
-    private void refuses(String what, java.util.function.IntSupplier call, int answer) {
-        long digest = x.digest();
-        int asked = x.asked();
-        int finding = x.finding();
-        long upper = x.upper();
-        due(what, call.getAsInt(), answer);
-        due("finding() behind " + what, x.finding(), finding);
-        due("digest() behind " + what, x.digest(), digest);
-        due("asked() behind " + what, x.asked(), asked);
-        due("upper() behind " + what, x.upper(), upper);
-    }
-
-    private void text(int t, String text) {
-        x.text(t, text.length());
-        for (int i = 0; i < text.length(); i++) {
-            x.put(t, i, text.charAt(i));
-        }
-    }
-
-    private void court(String text) {
-        text(3, text);
-        due("court(" + text + ")", x.court(3) > 0 ? 1 : 0, 1);
-    }
-
-    private void row(int r, int... values) {
-        x.row(r, values.length);
-        for (int i = 0; i < values.length; i++) {
-            x.lay(r, i, values[i]);
-        }
-    }
-
-    private void holds(int r, int... values) {
-        for (int i = 0; i < values.length; i++) {
-            asks("at(" + r + ", " + i + ")", x.at(r, i), 1, values[i]);
-        }
-        due("at behind the row's end", x.at(r, values.length), FINDING);
+        begin("promise " + number);
     }
 
     // ---- promises
@@ -218,12 +143,6 @@ final class PromisesTest {
         finds("put(1, 2, 0)", () -> x.put(1, 2, 0), BEYOND);
         finds("put(1, -1, 0)", () -> x.put(1, -1, 0), BEYOND);
         refuses("put(4, 0, 0)", () -> x.put(4, 0, 0), BAD);
-    }
-
-    private void fault(String text, int place) {
-        text(0, text);
-        due("fault of '" + text + "'", x.fault(0), place);
-        due("court of '" + text + "'", x.court(0), place == NONE ? x.count(0) : STATE);
     }
 
     private void courts() {
@@ -410,12 +329,6 @@ final class PromisesTest {
         due("a NEPHEW's of 3", x.mark(2, 5), 2);
         court("i1001 m199 x000 m199");
         due("a PROXY's of two", x.mark(1, 4), 2);
-    }
-
-    private void fill(int n) {
-        for (int k = 0; k < n; k++) {
-            x.heat(k % 2 == 0 ? 1 : -1);
-        }
     }
 
     private void deeds() {
